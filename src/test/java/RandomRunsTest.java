@@ -177,8 +177,9 @@ public final class RandomRunsTest {
             case 2, 3 -> due("place(" + p + ", " + some + ")", x.place(p, some), m.place(p, some));
             case 4, 5, 6, 7 -> {
                 int q = square(), i = some(12) - 1;
-                due("walk(" + p + ", " + q + ", " + some + ", " + i + ")", x.walk(p, q, some, i), m.walk(p, q, some, i));
-                due("walk(" + p + ", " + q + ", " + some + ", -1)", x.walk(p, q, some, -1), m.walk(p, q, some, -1));
+                String walk = "walk(" + p + ", " + q + ", " + some + ", ";
+                due(walk + i + ")", x.walk(p, q, some, i), m.walk(p, q, some, i));
+                due(walk + "-1)", x.walk(p, q, some, -1), m.walk(p, q, some, -1));
             }
             case 8, 9 -> {
                 int what = some(1);
