@@ -65,12 +65,16 @@ public final class ExtremesTest {
             got = thrown.getCause();
         }
         Object want = other.invoke(m, values);
-        if (!want.equals(got) || x.digest() != m.digest() || x.status(0) != m.status(0)) {
+        boolean asModel = want.equals(got) && x.digest() == m.digest();
+        for (int what = 0; what < 3; what++) {
+            asModel &= x.status(what) == m.status(what);
+        }
+        if (!asModel) {
             wrong++;
             System.out.println(method.getName() + java.util.Arrays.toString(values) + " answered " + got
                 + ", due is " + want);
         }
-        made += 3;
+        made += 5;
         if (made > 480) {
             layAnew();
         }

@@ -109,7 +109,8 @@ public final class FaceTest {
             char c = source.charAt(k);
             need(c == '\n' || c >= 32 && c < 127, "plain signs alone, at " + k);
         }
-        String bare = Pattern.compile("/\\*.*?\\*/|//[^\n]*|\"[^\"\n]*\"", Pattern.DOTALL).matcher(source).replaceAll(" ");
+        Pattern asides = Pattern.compile("/\\*.*?\\*/|//[^\n]*|\"[^\"\n]*\"", Pattern.DOTALL);
+        String bare = asides.matcher(source).replaceAll(" ");
         String[] never = {"throw", "throws", "try", "catch", "finally", "synchronized", "assert", "import", "package",
             "volatile", "transient", "native", "Object", "Exception", "hashCode", "toString", "protected"};
         for (String word : never) {

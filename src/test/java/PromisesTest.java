@@ -360,6 +360,13 @@ public final class PromisesTest {
         fault("garden 3 3;wind - - 1;", 18);
         fault("garden 3 3;wind 1 -;", 18);
         fault("garden 3 3;storm 1;", 11);
+        fault("garden 3 3;sell 0 1;", 11);
+        fault("garden 3 3;hedgez 1;", 11);
+        fault("garden 3 3;Hedge 1;", 11);
+        fault("garden 3 3;hedge` 1;", 16);
+        fault("garden 3 3;hedge{ 1;", 16);
+        fault("garden 3 3;hedge /;", 17);
+        fault("garden 3 3;hedge :;", 17);
         fault("garden 3 3;hedge\u00e9 1;", 16);
     }
 
@@ -647,6 +654,10 @@ public final class PromisesTest {
         due(21, "walk(0, 0, 0, -2)", x.walk(0, 0, 0, -2), -10);
         due(21, "status(0)", x.status(0), 7);
         due(21, "where(0)", x.where(0), 0);
+        x = laid("garden 3 3;hedge 4;person 0 8 9;");
+        for (int i = 0; i < 5; i++) {
+            due(21, "walk(0, 0, 0, " + i + "): back by 5, not by 7", x.walk(0, 0, 0, i), way[4 - i]);
+        }
         // No step from the end of a row to the next row's beginning.
         x = laid("garden 3 2;hedge 4;hedge 1;person 0 2 9;");
         due(21, "walk(0, 3, 0, -1)", x.walk(0, 3, 0, -1), HeardSeen.NONE);
@@ -770,6 +781,11 @@ public final class PromisesTest {
         x.set(1, 2, false);
         x.put(0, 2);
         due(25, "best(1)", x.best(1), 2);
+        x.move(0, 2);
+        x.move(2, 5);
+        due(25, "best(1): on the first square", x.best(1), 0);
+        x.move(0, 0);
+        x.move(2, 3);
         x.set(0, 2, true);
         x.set(0, 2, false);
         due(25, "count(1): all is as it was", x.count(1), 0);
@@ -852,6 +868,7 @@ public final class PromisesTest {
         x.put(1, 0);
         x.tell(1, 0);
         x.clears(1);
+        x.report(0, 2);
         long second = x.digest();
         due(28, "image(1)", x.image(1), 1);
         x.garden(2, 2);
@@ -884,6 +901,7 @@ public final class PromisesTest {
         x.person(0, 36, 0);
         x.count(7);
         due(30, "status(0)", x.status(0), 5);
+        countEachRefused();
         due(30, "status(1)", x.status(1), 0);
         x.set(1, 0, false);
         x.person(0, 0, 0);
@@ -907,6 +925,40 @@ public final class PromisesTest {
         due(30, "status(0): none of these is BAD", x.status(0), 5);
         due(30, "status(1)", x.status(1), 3);
         due(30, "status(2)", x.status(2), 3);
+    }
+
+    private static void countEachRefused() {
+        HeardSeen x = laid("garden 2 2;person 0 0 0;person 0 3 0;");
+        long[] answers = {x.garden(1, 1), x.set(2, 0, true), x.person(9, 0, 0), x.tell(0, 0), x.report(0, 9),
+            x.clears(9), x.type(0, 9), x.clear(0, 9), x.knows(0, 0, 0), x.where(9), x.judge(9), x.told(9),
+            x.place(9, 0), x.winds(9), x.parade(9, 0), x.lesson(0, 1), x.best(9), x.image(9), x.from(9), x.count(9)};
+        for (int k = 0; k < answers.length; k++) {
+            due(30, "BAD number " + k, answers[k], HeardSeen.BAD);
+        }
+        long[] others = {x.put(9, 0), x.move(9, 0), x.walk(9, 0, 0, 0), x.worth(9, 0), x.spots(9, 0)};
+        for (int k = 0; k < others.length; k++) {
+            due(30, "-10 number " + k, others[k], -10);
+        }
+        due(30, "status(0) of all these", x.status(0), answers.length + others.length);
+        x.set(0, 0, true);
+        x.set(1, 0, false);
+        x.person(0, 3, 0);
+        x.move(0, 3);
+        x.from(1);
+        due(30, "status(1)", x.status(1), 5);
+        for (int k = 0; k < 252 / 8; k++) {
+            x.type(0, 8);
+        }
+        due(30, "status(2)", x.status(2), 0);
+        x.type(0, 3);
+        due(30, "status(2)", x.status(2), 1);
+        x.garden(3, 3);
+        for (int q = 0; q < 6; q++) {
+            x.person(0, q, 0);
+        }
+        due(30, "status(2)", x.status(2), 2);
+        due(30, "status(0) as before", x.status(0), answers.length + others.length);
+        due(30, "status(1) as before", x.status(1), 5);
     }
 
     private static void count() {
