@@ -81,6 +81,7 @@ final class CallsBoundaries {
         s.due("person(0, 11, 0)", x.person(0, 11, 0), 0);
         s.due("from(1): the images stay", x.from(1), 1);
         s.due("count(6)", x.count(6), 6);
+        nobodyIsLeft();
         s.says(2, "how many SQUARES.");
         for (int w = 2; w <= 6; w++) {
             for (int h = 2; h <= 6; h++) {
@@ -102,6 +103,30 @@ final class CallsBoundaries {
             s.bad(HeardSeen::new, "garden(2, " + v + ")", y -> y.garden(2, v));
             s.bad(HeardSeen::new, "garden(" + v + ", " + v + ")", y -> y.garden(v, v));
         }
+    }
+
+    /** Those who were there before neither hear nor see anybody, nor do they tell or report. */
+    private void nobodyIsLeft() {
+        HeardSeen x = Sentences.laid("garden 6 2;person 0 0 9;person 0 1 9;person 2 2 9;person 2 3 9;person 5 4 9;"
+            + "tell 0 1;");
+        x.report(1, 1);
+        s.due("may() of five", x.may(), 16);
+        s.due("told(0)", x.told(0), 0);
+        x.garden(6, 2);
+        s.due("may() of nobody", x.may(), 0);
+        x.person(0, 0, 9);
+        s.due("may() of one", x.may(), 1);
+        s.due("speakers()", x.speakers(), 0);
+        s.due("judge(1)", x.judge(1), HeardSeen.NONE);
+        s.due("told(0)", x.told(0), 1);
+        s.due("spots(0, -1)", x.spots(0, -1), 12);
+        s.due("parade(0, 1)", x.parade(0, 1), 0);
+        x.person(2, 6, 9);
+        s.due("may() of two", x.may(), 1);
+        s.due("speakers()", x.speakers(), 1);
+        s.due("spots(1, -1)", x.spots(1, -1), 11);
+        s.due("parade(1, 0)", x.parade(1, 0), 0);
+        s.due("parade(0, 1)", x.parade(0, 1), 0);
     }
 
     private void set() {
@@ -341,7 +366,9 @@ final class CallsBoundaries {
         s.due("count(4)", x.count(4), 0);
         s.due("clears(1) of none", x.clears(1), 0);
         s.due("told(31) of none", x.told(31), 1);
-        s.due("spots(0, -1) of none", x.spots(0, -1), 14);
+        for (int p = 0; p < 5; p++) {
+            s.due("spots(" + p + ", -1) of none", x.spots(p, -1), 14);
+        }
         s.due("count(0)", x.count(0), 5);
         s.says(9, "BAD.");
         s.bad(Sentences::fullest, "clears(-1)", y -> y.clears(-1));
@@ -473,6 +500,7 @@ final class CallsBoundaries {
         x.set(0, 0, true);
         s.due("from(0) a second time", x.from(0), 1);
         s.due("all, compared with an object that was changed no more,", Sentences.compare(x, twin), -1);
+        keepsEachPart();
         x = Sentences.fullest();
         x.image(1);
         Sentences.typeText(x, SIX);
@@ -506,6 +534,37 @@ final class CallsBoundaries {
             s.refused(Sentences::smallest, "from(" + i + ")", y -> y.from(one), HeardSeen.NO, Sentences.BY_NO);
             s.refused(() -> withImage(1 - one), "from(" + i + "), the other one was", y -> y.from(one), HeardSeen.NO,
                 Sentences.BY_NO);
+        }
+    }
+
+    /** All parts are others while it goes on, in rows as long as those that were kept. */
+    private void keepsEachPart() {
+        for (int i = 0; i < 2; i++) {
+            HeardSeen x = Sentences.fullest();
+            x.wipe();
+            long kept = x.digest();
+            x.image(i);
+            x.garden(4, 5);
+            x.put(0, 4);
+            x.put(1, 1);
+            x.set(0, 0, true);
+            x.set(1, 1, true);
+            for (int p = 0; p < 5; p++) {
+                x.person(5 - p, 19 - p, p);
+            }
+            for (int t = 0; t < 6; t++) {
+                x.tell(4, t % 4);
+            }
+            for (int r = 0; r < 8; r++) {
+                x.report(4 - r % 5, 3 - r % 4);
+            }
+            s.due("digest(), all is another", x.digest() == kept ? 1 : 0, 0);
+            long other = x.digest();
+            x.image(1 - i);
+            s.due("from(" + i + ")", x.from(i), 1);
+            s.due("digest()", x.digest(), kept);
+            s.due("from(" + (1 - i) + ")", x.from(1 - i), 1);
+            s.due("digest()", x.digest(), other);
         }
     }
 
@@ -581,9 +640,9 @@ final class CallsBoundaries {
     }
 
     private void digest() {
-        s.says(32, "h = 743; then h = 31 h + v for each v: count(0) to count(6); W, DROWN, WIND; of PEOPLE KIND, SQUARE, "
-            + "VOICE; of SQUARES whether there is a HEDGE, a FOUNTAIN (1, 0); of TELLINGS a, b; of REPORTS by whom, "
-            + "what.");
+        s.says(32, "h = 743; then h = 31 h + v for each v: count(0) to count(6); W, DROWN, WIND; of PEOPLE KIND, "
+            + "SQUARE, VOICE; of SQUARES whether there is a HEDGE, a FOUNTAIN (1, 0); of TELLINGS a, b; of REPORTS by "
+            + "whom, what.");
         List<Integer> v = new ArrayList<>(List.of(5, 2, 1, 6, 8, 250, 20, 5, 0, -1));
         v.addAll(List.of(0, 6, 3, 2, 8, 2, 3, 16, 9, 4, 15, 4, 5, 10, 0));
         for (int q = 0; q < 20; q++) {

@@ -200,6 +200,9 @@ final class PlanBoundaries {
             for (int k = 0; k < word.length(); k++) {
                 char large = (char) (word.charAt(k) - 32);
                 faults(SMALL + word.substring(0, k) + large + word.substring(k + 1) + " 1;", 11);
+                char other = word.charAt(k) == 'z' ? 'a' : (char) (word.charAt(k) + 1);
+                faults(SMALL + word.substring(0, k) + other + word.substring(k + 1) + " 1;", 11);
+                faults(SMALL + word.substring(0, k) + word.substring(k + 1) + " 1;", 11);
             }
         }
     }
@@ -303,6 +306,11 @@ final class PlanBoundaries {
         faults("garden 6 6;wind - 001;", 18);
         faults("garden 6 6;person 0 123;", 20);
         faults("garden 6 6;person 012 3;", 18);
+        faults("garden 6 6;person 000 0 0;", 18);
+        faults("garden 6 6;person 0 000 0;", 20);
+        faults("garden 6 6;person 0 0 000;", 22);
+        faults("garden 6 6;person 0 0 0;person 0 1 0;tell 000 1;", 42);
+        faults("garden 6 6;person 0 0 0;person 0 1 0;tell 0 001;", 44);
         faults("garden 6 6;hedge 1234567890123456789012345678901234567890;", 17);
         faults("garden 6 6;hedge 4294967297;", 17);
         faults("garden 6 6;hedge 00000000000000000000000000000000000;", 17);
@@ -339,6 +347,8 @@ final class PlanBoundaries {
             reads(SMALL + "fountain " + q + ";person 0 " + q + " 0;fountain " + q + ";", 1);
             reads(SMALL + "fountain " + q + ";hedge " + q + ";fountain " + q + ";", 0);
         }
+        HeardSeen x = Sentences.laid(SMALL + "fountain 8;fountain 08;");
+        s.due("count(2), a fountain told twice", x.count(2), 1);
         // At the square, whatever comes behind it.
         faults(SMALL + "hedge 2;person 0 2", 28);
         faults(SMALL + "hedge 2;person 0 2 99;", 28);

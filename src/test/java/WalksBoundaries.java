@@ -6,6 +6,8 @@ final class WalksBoundaries {
     private static final String CHAIN = "garden 6 2;person 2 0 1;person 2 1 1;person 2 2 1;person 2 3 1;person 2 4 1;";
     private static final String LOUD = "garden 6 2;person 2 0 9;person 2 1 9;person 2 2 9;person 2 3 9;person 2 4 9;";
     private static final String FILLED = "garden 2 2;person 0 0 9;person 0 1 9;person 0 2 9;person 0 3 9;";
+    private static final String WINDING = "garden 6 5;hedge 6;hedge 7;hedge 8;hedge 9;hedge 10;hedge 19;hedge 20;"
+        + "hedge 21;hedge 22;hedge 23;person 0 0 1;";
     private final Sentences s;
 
     WalksBoundaries(Sentences s) {
@@ -55,8 +57,8 @@ final class WalksBoundaries {
     }
 
     private void toldTerms() {
-        s.says(Sentences.TERMS, "TOLD at once, not heard by some (bits): all a of TELLINGS MAY speak, each b HEARS its a, "
-            + "and none of those some HEARS any such a (but himself).");
+        s.says(Sentences.TERMS, "TOLD at once, not heard by some (bits): all a of TELLINGS MAY speak, each b HEARS its "
+            + "a, and none of those some HEARS any such a (but himself).");
         for (int some = 0; some < 32; some++) {
             s.due("told(" + some + ") with no TELLINGS", Sentences.laid(LOUD).told(some), 1);
         }
@@ -108,6 +110,9 @@ final class WalksBoundaries {
         ask("garden 6 6;hedge 28;person 0 0 1;person 2 34 0;tell 0 1;person 2 33 0;", "place(0, 0)",
             y -> y.place(0, 0), 35);
         ask("garden 6 6;hedge 28;hedge 33;hedge 35;" + end, "place(0, 0)", y -> y.place(0, 0), HeardSeen.NONE);
+        ask("garden 6 6;person 0 0 1;person 2 35 0;tell 0 1;", "place(1, 0), who hears comes", y -> y.place(1, 0), 1);
+        ask("garden 6 6;person 0 0 9;person 2 1 0;person 2 2 0;tell 0 1;", "place(2, 4), who must not hear goes",
+            y -> y.place(2, 4), 35);
         s.says(19, "PLACE. NONE.");
         ask("garden 2 2;person 0 0 0;person 0 3 0;", "place(0, 0), his own is the least", y -> y.place(0, 0), 0);
         ask("garden 2 2;person 0 0 0;person 0 3 0;", "place(1, 3), no TELLINGS", y -> y.place(1, 3), 1);
@@ -126,8 +131,8 @@ final class WalksBoundaries {
     private void winds() {
         s.says(Sentences.TERMS, "WINDS: of -1, 0, 1 (bits 1, 2, 4) those by which all is TOLD so.");
         ask("garden 6 2;person 0 3 2;person 2 0 0;tell 0 1;", "winds(0), to the left", y -> y.winds(0), 1);
-        ask("garden 6 2;person 0 2 2;person 2 0 0;person 2 4 0;tell 0 1;tell 0 2;", "winds(0), to both", y -> y.winds(0),
-            2);
+        ask("garden 6 2;person 0 2 2;person 2 0 0;person 2 4 0;tell 0 1;tell 0 2;", "winds(0), to both",
+            y -> y.winds(0), 2);
         ask("garden 6 2;person 0 0 2;person 2 3 0;tell 0 1;", "winds(0), to the right", y -> y.winds(0), 4);
         ask("garden 6 2;person 0 3 3;person 2 0 0;tell 0 1;", "winds(0)", y -> y.winds(0), 3);
         ask("garden 6 2;person 0 0 3;person 2 3 0;tell 0 1;", "winds(0)", y -> y.winds(0), 6);
@@ -146,8 +151,8 @@ final class WalksBoundaries {
     }
 
     private void walkSteps() {
-        s.says(Sentences.TERMS, "WALK of one to a SQUARE, some speaking (bits, he too perhaps): steps to a SQUARE beside "
-            + "(x or y 1 more or less), free ones alone;");
+        s.says(Sentences.TERMS, "WALK of one to a SQUARE, some speaking (bits, he too perhaps): steps to a SQUARE "
+            + "beside (x or y 1 more or less), free ones alone;");
         ask("garden 3 2;hedge 1;hedge 4;person 0 2 0;", "walk(0, 3, 0, -1) from row to row", y -> y.walk(0, 3, 0, -1),
             HeardSeen.NONE);
         ask("garden 3 2;hedge 1;hedge 4;person 0 3 0;", "walk(0, 2, 0, -1) from row to row", y -> y.walk(0, 2, 0, -1),
@@ -198,8 +203,8 @@ final class WalksBoundaries {
     }
 
     private void walkFirst() {
-        s.says(Sentences.TERMS, "the fewest steps; of like ones the first by SQUARES: the i-th (0: where he stands now); "
-            + "none.");
+        s.says(Sentences.TERMS, "the fewest steps; of like ones the first by SQUARES: the i-th (0: where he stands "
+            + "now); none.");
         int[][] ways = {{0, 1, 2, 3, 4, 5, 11, 17, 23, 29, 35}, {35, 29, 23, 17, 11, 5, 4, 3, 2, 1, 0},
             {5, 4, 3, 2, 1, 0, 6, 12, 18, 24, 30}, {30, 24, 18, 12, 6, 0, 1, 2, 3, 4, 5}};
         for (int[] way : ways) {
@@ -208,8 +213,7 @@ final class WalksBoundaries {
         follow("garden 3 3;hedge 4;hedge 1;person 0 0 0;", new int[] {0, 3, 6, 7, 8});
         follow("garden 3 3;hedge 4;hedge 7;person 0 6 0;", new int[] {6, 3, 0, 1, 2, 5, 8});
         // Along all of a winding way, and no shorter one.
-        follow("garden 6 5;hedge 6;hedge 7;hedge 8;hedge 9;hedge 10;hedge 19;hedge 20;hedge 21;hedge 22;hedge 23;"
-            + "person 0 0 0;", new int[] {0, 1, 2, 3, 4, 5, 11, 17, 16, 15, 14, 13, 12, 18, 24, 25, 26, 27, 28, 29});
+        follow(WINDING, new int[] {0, 1, 2, 3, 4, 5, 11, 17, 16, 15, 14, 13, 12, 18, 24, 25, 26, 27, 28, 29});
     }
 
     private void follow(String plan, int[] way) {
@@ -263,8 +267,8 @@ final class WalksBoundaries {
     }
 
     private void paradeSeen() {
-        s.says(Sentences.TERMS, "PARADE of one: 0 SEEN: the fewest steps by which all others have seen him, each on some "
-            + "SQUARE of the walk (the first, too);");
+        s.says(Sentences.TERMS, "PARADE of one: 0 SEEN: the fewest steps by which all others have seen him, each on "
+            + "some SQUARE of the walk (the first, too);");
         ask("garden 2 2;person 0 0 0;", "parade(0, 0) of one alone", y -> y.parade(0, 0), 0);
         ask("garden 6 6;person 0 0 0;person 0 35 0;person 0 5 0;person 0 30 0;person 1 14 0;", "parade(0, 0) of five",
             y -> y.parade(0, 0), 0);
@@ -275,17 +279,51 @@ final class WalksBoundaries {
         // 2 sees him on 10 first, 1 on 7 then: 9, 10, 9, 8, 7.
         ask("garden 6 2;hedge 1;hedge 4;person 0 3 0;person 0 0 0;person 0 5 0;", "parade(0, 0), there and back",
             y -> y.parade(0, 0), 5);
+        ask("garden 3 2;hedge 4;person 0 3 0;person 0 5 0;", "parade(0, 0), up", y -> y.parade(0, 0), 2);
+        ask("garden 2 6;hedge 2;person 0 10 0;person 0 0 0;", "parade(0, 0), up a column", y -> y.parade(0, 0), 5);
+        ask("garden 2 6;hedge 2;hedge 9;hedge 11;person 0 10 0;person 0 0 0;", "parade(0, 0), up, then aside",
+            y -> y.parade(0, 0), 5);
         ask("garden 3 2;hedge 1;hedge 4;person 0 0 0;person 0 2 0;", "parade(0, 0), walled off", y -> y.parade(0, 0),
             HeardSeen.NONE);
         ask("garden 2 2;person 0 0 0;person 2 3 0;", "parade(0, 0), a blind one", y -> y.parade(0, 0), HeardSeen.NONE);
         ask("garden 2 2;person 3 0 0;person 0 1 0;", "parade(0, 0), screened: down a row", y -> y.parade(0, 0), 1);
         ask("garden 2 2;person 5 0 0;person 5 1 0;", "parade(0, 0), two abbesses", y -> y.parade(0, 0), 0);
         ask("garden 2 2;person 5 0 0;person 0 1 0;", "parade(0, 0), an abbess", y -> y.parade(0, 0), HeardSeen.NONE);
+        paradesAlongAll();
+        oneAfterAnother();
+    }
+
+    private void paradesAlongAll() {
+        ask(WINDING + "person 0 29 0;", "parade(0, 0), seen in the last row alone", y -> y.parade(0, 0), 14);
+        ask(WINDING + "person 2 29 0;", "parade(0, 1), heard by the next one alone", y -> y.parade(0, 1), 18);
+    }
+
+    /** One walk after another by the same object: what was found before is forgotten. */
+    private void oneAfterAnother() {
+        HeardSeen x = Sentences.laid("garden 6 6;hedge 1;hedge 7;hedge 13;hedge 19;hedge 25;"
+            + "person 0 0 0;person 0 5 0;");
+        s.due("parade(0, 0) down, then past the hedge", x.parade(0, 0), 7);
+        x.set(0, 31, true);
+        s.due("parade(0, 0), walled off", x.parade(0, 0), HeardSeen.NONE);
+        x.set(0, 31, false);
+        s.due("walk(0, 5, 0, -1)", x.walk(0, 5, 0, -1), HeardSeen.NONE);
+        s.due("walk(0, 4, 0, -1)", x.walk(0, 4, 0, -1), 14);
+        x.set(0, 31, true);
+        s.due("walk(0, 4, 0, -1), walled off", x.walk(0, 4, 0, -1), HeardSeen.NONE);
+        x.set(0, 6, true);
+        s.due("parade(0, 0), walled in", x.parade(0, 0), HeardSeen.NONE);
+        s.due("walk(0, 12, 0, -1), walled in", x.walk(0, 12, 0, -1), HeardSeen.NONE);
+        x.garden(2, 2);
+        x.person(0, 0, 0);
+        x.person(2, 3, 0);
+        s.due("parade(0, 0), a blind one", x.parade(0, 0), HeardSeen.NONE);
+        s.due("parade(0, 1), too low a voice", x.parade(0, 1), HeardSeen.NONE);
+        s.due("parade(1, 0)", x.parade(1, 0), 0);
     }
 
     private void paradeHeard() {
-        s.says(Sentences.TERMS, "1 HEARD: by which, he speaking on all SQUARES, all others have heard him, nobody but an "
-            + "ABBESS sees him on any of these. None.");
+        s.says(Sentences.TERMS, "1 HEARD: by which, he speaking on all SQUARES, all others have heard him, nobody but "
+            + "an ABBESS sees him on any of these. None.");
         ask("garden 2 2;person 0 0 0;", "parade(0, 1) of one alone", y -> y.parade(0, 1), 0);
         ask(LOUD, "parade(0, 1) of five", y -> y.parade(0, 1), 0);
         ask(CHAIN, "parade(0, 1): down the row beside", y -> y.parade(0, 1), 5);
@@ -327,9 +365,9 @@ final class WalksBoundaries {
     }
 
     private void lessonTerms() {
-        s.says(Sentences.TERMS, "LESSON from one, not heard by some (bits): in each MOMENT all who know and MAY speak, and "
-            + "are not heard by any of some, speak; who HEARS one knows from then on: the fewest MOMENTS until all but "
-            + "some know; none.");
+        s.says(Sentences.TERMS, "LESSON from one, not heard by some (bits): in each MOMENT all who know and MAY speak, "
+            + "and are not heard by any of some, speak; who HEARS one knows from then on: the fewest MOMENTS until all "
+            + "but some know; none.");
         HeardSeen x = Sentences.laid(CHAIN);
         int[] moments = {4, 3, 2, 3, 4};
         for (int p = 0; p < 5; p++) {
@@ -357,7 +395,8 @@ final class WalksBoundaries {
         ask(CHAIN, "lesson(4, 0)", y -> y.lesson(4, 0), 4);
         ask(CHAIN, "lesson(4, 15)", y -> y.lesson(4, 15), 0);
         ask(CHAIN, "lesson(4, 8)", y -> y.lesson(4, 8), HeardSeen.NONE);
-        ask("garden 2 2;person 5 0 9;person 0 3 9;", "lesson(0, 0) from an abbess", y -> y.lesson(0, 0), HeardSeen.NONE);
+        ask("garden 2 2;person 5 0 9;person 0 3 9;", "lesson(0, 0) from an abbess",
+            y -> y.lesson(0, 0), HeardSeen.NONE);
         ask("garden 2 2;person 5 0 9;person 0 3 0;", "lesson(1, 0) to an abbess", y -> y.lesson(1, 0), 1);
         s.says(23, "BAD: from one of some, too.");
         badPeople("lesson", (y, p) -> y.lesson(p, 0));
@@ -385,8 +424,8 @@ final class WalksBoundaries {
     }
 
     private void bestTerms() {
-        s.says(Sentences.TERMS, "HEDGE, FOUNTAIN: the least free SQUARE (none of its own sort there) by which, were there "
-            + "one more, SPEAKERS are most, if that is more than now; none.");
+        s.says(Sentences.TERMS, "HEDGE, FOUNTAIN: the least free SQUARE (none of its own sort there) by which, were "
+            + "there one more, SPEAKERS are most, if that is more than now; none.");
         // A hedge on 1 lets one speak, one on 34 two.
         HeardSeen x = Sentences.laid("garden 6 6;person 0 0 2;person 0 2 0;person 0 33 2;person 0 35 2;");
         s.due("best(0), the most", x.best(0), 34);
@@ -474,12 +513,14 @@ final class WalksBoundaries {
         for (int what = 0; what < 4; what++) {
             s.due("spots by report(1, " + what + ")", reported(plan, 1, what).spots(0, -1), many[what]);
         }
-        s.due("the last of eight counts", reported(plan, 1, 0, 1, 0, 1, 0, 1, 0, 1, 0, 1, 0, 1, 0, 1, 2).spots(0, -1), 4);
-        s.due("the last of eight counts", reported(plan, 1, 0, 1, 0, 1, 0, 1, 0, 1, 0, 1, 0, 1, 0, 1, 1).spots(0, -1), 0);
+        s.due("the eighth counts", reported(plan, 1, 0, 1, 0, 1, 0, 1, 0, 1, 0, 1, 0, 1, 0, 1, 2).spots(0, -1), 4);
+        s.due("the eighth counts", reported(plan, 1, 0, 1, 0, 1, 0, 1, 0, 1, 0, 1, 0, 1, 0, 1, 1).spots(0, -1), 0);
         s.due("a ninth does not", reported(plan, 1, 0, 1, 0, 1, 0, 1, 0, 1, 0, 1, 0, 1, 0, 1, 0, 1, 1).spots(0, -1), 4);
-        s.says(Sentences.TERMS, "SPOTS of one: free SQUARES (or his) by which, he standing there, all REPORTS by others "
-            + "are so: how many, the i-th (rising).");
+        s.says(Sentences.TERMS, "SPOTS of one: free SQUARES (or his) by which, he standing there, all REPORTS by "
+            + "others are so: how many, the i-th (rising).");
         s.due("no REPORTS", reported(plan).spots(0, -1), 6);
+        s.due("by 0, of 1: past two corners", reported("garden 6 2;hedge 1;hedge 6;person 0 0 0;person 0 11 0;",
+            0, 0).spots(1, -1), 1);
         s.due("his own alone", reported(plan, 0, 0, 0, 1, 0, 2, 0, 3).spots(0, -1), 6);
         s.due("seen and not seen", reported(plan, 1, 0, 1, 1).spots(0, -1), 0);
         s.due("heard, not seen", reported(plan, 1, 2, 1, 1).spots(0, -1), 1);
