@@ -14,8 +14,8 @@ public final class HeardSeen {
 
     private final Garden now = new Garden();
     private final Garden draft = new Garden();
+    // One that was never kept is null; it is made once, when it is kept first, and used again from then on.
     private final Garden[] images = new Garden[IMAGES];
-    private final boolean[] kept = new boolean[IMAGES];
     private final Plan plan = new Plan();
     private final Law law;
     private final Paths paths;
@@ -24,9 +24,6 @@ public final class HeardSeen {
     private int fulls;
 
     public HeardSeen() {
-        for (int i = 0; i < images.length; i++) {
-            images[i] = new Garden();
-        }
         law = new Law(now);
         paths = new Paths(now, law);
     }
@@ -260,8 +257,12 @@ public final class HeardSeen {
         if (!isWithin(i, 0, images.length - 1)) {
             return refuseBad(BAD);
         }
-        images[i].copyFrom(now);
-        kept[i] = true;
+        Garden image = images[i];
+        if (image == null) {
+            image = new Garden();
+            images[i] = image;
+        }
+        image.copyFrom(now);
         return 1;
     }
 
@@ -269,10 +270,11 @@ public final class HeardSeen {
         if (!isWithin(i, 0, images.length - 1)) {
             return refuseBad(BAD);
         }
-        if (!kept[i]) {
+        Garden image = images[i];
+        if (image == null) {
             return refuseNo(NO);
         }
-        now.copyFrom(images[i]);
+        now.copyFrom(image);
         return 1;
     }
 

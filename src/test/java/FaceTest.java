@@ -123,7 +123,21 @@ public final class FaceTest {
         while (library.find()) {
             need(listed.contains(library.group()), library.group() + " is listed");
         }
+        lookAtElements(bare);
         lookAtLengths(bare);
+    }
+
+    /** What an array of objects holds may be null: it goes to a variable, or is compared with null, ahead of its use. */
+    private static void lookAtElements(String bare) {
+        need(!Pattern.compile("\\]\\s*\\.").matcher(bare).find(), "no member of an array's element without a test");
+        Matcher arrays = Pattern.compile("\\b(?:Garden|Person)\\[\\] (\\w+) =").matcher(bare);
+        int found = 0;
+        while (arrays.find()) {
+            found++;
+            Matcher given = Pattern.compile("\\(" + arrays.group(1) + "\\[\\w+\\]\\)").matcher(bare);
+            need(!given.find(), "no element of " + arrays.group(1) + " is handed on without a test");
+        }
+        need(found == 2, "two arrays of objects");
     }
 
     /** A method is what stands between a line that ends in ") {" and the brace at its own depth. */
